@@ -290,6 +290,10 @@ public final class PromiseTests {
         due("count(1)", y.count(1), 2);
         due("undo", y.undo(), 0);
         due("count(1)", y.count(1), 0);
+        SqueezedCode v = laid("w1".repeat(16));
+        due("choose(1)", v.choose(1), 1);
+        row("four letters", each(v.entry(0, 0), v.entry(0, 1), v.entry(0, 2), v.entry(0, 3), v.size(0)),
+                4, NONE, 4, 10, 8);
         SqueezedCode z = laid("a1a2a1a2a1a2a1a2qw0w1w2w3w4w5w6");
         for (int i = 9; i < 15; i++) {
             z.add(i, 2, -1);
@@ -452,6 +456,9 @@ public final class PromiseTests {
             due("squeezed nibble(" + k + ")", x.nibble(k), squeezed[k]);
         }
         due("nibble(23)", x.nibble(23), NONE);
+        SqueezedCode y = laid("a7a2h");
+        y.add(0, 2, 0);
+        row("the first K in the hole", each(y.nibble(0), y.nibble(1), y.nibble(2), y.nibble(3)), 15, 0, 7, 11);
     }
 
     private static void addresses() {
@@ -526,6 +533,8 @@ public final class PromiseTests {
         x.start(0);
         row("jump at 0", each(x.step(1), x.now(0), x.step(1), x.now(0)), 1, 2, 1, 4);
         row("halt", each(x.step(1), x.now(0), x.now(2), x.now(4), x.step(1)), 1, NONE, 3, 0, NO);
+        x = ran("a3hw1", 1);
+        row("halt in the midst", each(x.now(0), x.now(1), x.now(2), x.now(3), x.step(1)), NONE, 3, 2, 0, NO);
         x = laid("a1z00j03w0");
         x.start(0);
         row("no jump", each(x.step(2), x.now(0), x.step(1), x.now(0)), 2, 2, 1, 3);
