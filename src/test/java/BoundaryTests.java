@@ -43,7 +43,7 @@ public final class BoundaryTests {
         askedOfWhatItComesTo();
         askedOfRuns();
         ordersOfRefusals();
-        says("the end");
+        endSentence();
         System.out.println(sentences + " sentences, " + answers + " answers looked at, " + wrong + " not as due");
         if (wrong != 0) {
             System.exit(1);
@@ -56,13 +56,17 @@ public final class BoundaryTests {
 
     /** What follows is a test of these words of the document. */
     private static void says(String words) {
+        endSentence();
+        sentences++;
+        answersAtLastSentence = answers;
+        sentence = words;
+    }
+
+    private static void endSentence() {
         if (sentences > 0 && answers == answersAtLastSentence) {
             wrong++;
             System.out.println("no answer looked at for: " + sentence);
         }
-        sentences++;
-        answersAtLastSentence = answers;
-        sentence = words;
     }
 
     private static int[] each(int... got) {
